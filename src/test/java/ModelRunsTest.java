@@ -4,7 +4,6 @@ import java.util.Random;
 /** Long mixed runs of calls, each answer beside that of a plain model. The seeds are fixed. */
 public final class ModelRunsTest {
     private static final int RUNS = 400;
-    private static final int CALLS = 512;
 
     private final Check check = new Check();
 
@@ -20,15 +19,15 @@ public final class ModelRunsTest {
     }
 
     private void oneRun(Random random) {
-        KeyMaker x = new KeyMaker();
+        CountedMaker x = new CountedMaker();
         Model model = new Model();
         int wildness = random.nextInt(4);
-        for (int n = 0; n < CALLS; n++) {
+        for (int n = 0; n < CountedMaker.MOST_CALLS; n++) {
             oneCall(random, wildness, x, model);
         }
     }
 
-    private void oneCall(Random random, int wildness, KeyMaker x, Model model) {
+    private void oneCall(Random random, int wildness, CountedMaker x, Model model) {
         int kind = random.nextInt(64);
         if (kind < 16) {
             int b = value(random, wildness, 256);
