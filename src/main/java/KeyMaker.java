@@ -45,7 +45,7 @@ public final class KeyMaker {
     // Apart from lastMark, so that sum and mark may be asked between two turns.
     private final int[] answer = new int[SUM_BYTES];
     private final Summer summer = new Summer();
-    private final Marker marker = new Marker(summer);
+    private final Marker marker = new Marker();
 
     private int passwordCount;
     private int saltCount;
@@ -56,9 +56,7 @@ public final class KeyMaker {
     private int turnsOfThis;
 
     public KeyMaker() {
-        passwordCount = 0;
-        saltCount = 0;
-        forgetKey();
+        forgetAll();
     }
 
     public boolean password(int b) {
@@ -130,9 +128,7 @@ public final class KeyMaker {
     }
 
     public void reset() {
-        passwordCount = 0;
-        saltCount = 0;
-        forgetKey();
+        forgetAll();
     }
 
     public int many(int what) {
@@ -152,9 +148,7 @@ public final class KeyMaker {
         if (!isPlaceOfSum(i)) {
             return NONE;
         }
-        summer.begin();
-        summer.takeRow(passwordRow, passwordCount);
-        summer.finish(answer);
+        summer.writeSum(passwordRow, passwordCount, answer);
         return answer[i];
     }
 
@@ -202,7 +196,9 @@ public final class KeyMaker {
         return (parts - partsDone) * turnsOfEach - turnsOfThis;
     }
 
-    private void forgetKey() {
+    private void forgetAll() {
+        passwordCount = 0;
+        saltCount = 0;
         keyCount = 0;
         turnsOfEach = 0;
         partsDone = 0;
@@ -237,6 +233,12 @@ public final class KeyMaker {
         private final int[] state = new int[SUM_WORDS];
         private final int[] words = new int[ROUNDS];
         private int taken;
+
+        void writeSum(int[] row, int count, int[] into) {
+            begin();
+            takeRow(row, count);
+            finish(into);
+        }
 
         void begin() {
             System.arraycopy(H, 0, state, 0, SUM_WORDS);
@@ -343,7 +345,8 @@ public final class KeyMaker {
 
     /** The mark of rows of bytes under one key. */
     private static final class Marker {
-        private final Summer summer;
+        // Its own, so that no object hands a part of itself to another.
+        private final Summer summer = new Summer();
         private final int[] shortKey = new int[BLOCK_BYTES];
         private final int[] block = new int[BLOCK_BYTES];
         private final int[] innerSum = new int[SUM_BYTES];
@@ -352,16 +355,10 @@ public final class KeyMaker {
         private final int[] innerState = new int[SUM_WORDS];
         private final int[] outerState = new int[SUM_WORDS];
 
-        Marker(Summer shared) {
-            summer = shared;
-        }
-
         void takeKey(int[] key, int count) {
             Arrays.fill(shortKey, 0);
             if (count > BLOCK_BYTES) {
-                summer.begin();
-                summer.takeRow(key, count);
-                summer.finish(shortKey);
+                summer.writeSum(key, count, shortKey);
             } else {
                 System.arraycopy(key, 0, shortKey, 0, count);
             }

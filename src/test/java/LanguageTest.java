@@ -13,6 +13,8 @@ import java.util.regex.Pattern;
 public final class LanguageTest {
     private static final Set<String> LIBRARY = Set.of("Arrays.fill", "Integer.rotateRight", "Math.min",
         "System.arraycopy");
+    private static final Pattern MADE = Pattern.compile(
+        "private final (int\\[\\] \\w+ = new int\\[[A-Z_ +*]+\\]|(\\w+) \\w+ = new \\2\\(\\));");
     private static final Check CHECK = new Check();
 
     private LanguageTest() {
@@ -26,7 +28,9 @@ public final class LanguageTest {
         forbiddenWords(code);
         library(code);
         objectsAreMadeWithTheirOwner(code);
+        staticRowsAreNeverChanged(code);
         shortMethods(text);
+        callsStayShallow(code);
         CHECK.end();
     }
 
@@ -103,14 +107,47 @@ public final class LanguageTest {
         }
     }
 
-    /** No call makes objects, so that the room of a run holds whatever its calls are. */
+    /**
+     * No call makes objects, so that the room of a run holds whatever its calls are, and what is made is given
+     * nothing of its owner.
+     */
     private static void objectsAreMadeWithTheirOwner(String code) {
         CHECK.about("rule 12");
         for (String line : code.split("\n")) {
             if (Pattern.compile("\\bnew\\b").matcher(line).find()) {
-                CHECK.due(line.strip(), line.matches("\\s+private final \\S+ \\w+ = new .*;\\s*"), true);
+                CHECK.due(line.strip(), MADE.matcher(line.strip()).matches(), true);
             }
         }
+    }
+
+    private static void staticRowsAreNeverChanged(String code) {
+        CHECK.about("rule 5");
+        Matcher row = Pattern.compile("\\bstatic final int\\[\\] (\\w+) = \\{").matcher(code);
+        int rows = 0;
+        while (row.find()) {
+            rows++;
+            String name = "\\b" + row.group(1) + "\\b";
+            // Read at a place, asked for its length, or copied from: nothing else names it.
+            String rest = code.replaceAll("static final int\\[\\] " + name, "")
+                .replaceAll(name + "(\\[\\w+\\](?!\\s*([-+*/%&|^]|<<|>>>?)?=[^=])|\\.length)", "")
+                .replaceAll("System\\.arraycopy\\(" + name, "");
+            CHECK.due(row.group(1) + " is read alone", Pattern.compile(name).matcher(rest).find(), false);
+        }
+        CHECK.due("rows written out in their initialiser", rows, 2);
+    }
+
+    private static void callsStayShallow(String code) {
+        CHECK.about("rules 8 and 11");
+        CallDepth calls = new CallDepth(code);
+        CHECK.due("methods that bear one name", calls.namesTwice(), 0);
+        for (Method m : KeyMaker.class.getDeclaredMethods()) {
+            if (Modifier.isPublic(m.getModifiers())) {
+                int depth = calls.of(m.getName());
+                CHECK.due(m.getName() + " is found", depth >= 1, true);
+                CHECK.due(m.getName() + " goes " + depth + " calls deep: at most eight", depth <= 8, true);
+            }
+        }
+        CHECK.due("run, the deepest", calls.of("run"), 8);
     }
 
     private static void shortMethods(String text) {

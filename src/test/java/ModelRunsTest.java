@@ -66,6 +66,10 @@ public final class ModelRunsTest {
         } else if (random.nextInt(4) == 0) {
             x.reset();
             model.reset();
+        } else {
+            int which = value(random, wildness, 2);
+            int i = value(random, wildness, 64);
+            check.due("word(" + which + ", " + i + ")", x.word(which, i), model.word(which, i));
         }
     }
 
@@ -77,6 +81,8 @@ public final class ModelRunsTest {
     }
 
     private static final class Model {
+        private static final int[] PRIMES = Reference.primes(64);
+
         private byte[] password = new byte[0];
         private byte[] salt = new byte[0];
         private byte[] key = new byte[0];
@@ -158,6 +164,13 @@ public final class ModelRunsTest {
 
         int mark(int i) {
             return i >= 0 && i < 32 ? Reference.markOf(password, salt)[i] & 255 : -1;
+        }
+
+        int word(int which, int i) {
+            if (i < 0 || i >= 64 || which != 0 && (which != 1 || i >= 8)) {
+                return 0;
+            }
+            return Reference.rootBits(PRIMES[i], which == 0 ? 3 : 2);
         }
 
         private int all() {
